@@ -234,7 +234,7 @@ public final class ListedNames {
 
         /** The row that has, behind its first length bytes, one byte more. */
         static long extended(long row, int length, int value) {
-            return row | (long) (value + 1) << (ALL_BITS - BITS * (length + 1));
+            return row | ((long) (value + 1) << (ALL_BITS - BITS * (length + 1)));
         }
 
         static long ofSerial(int serial) {
@@ -342,13 +342,20 @@ public final class ListedNames {
             int length = Row.lengthOf(row);
             int places = 0;
             for (int m = leastLength; m <= length; m++) {
-                long beginning = Row.beginning(row, m);
-                int first = rowsBefore(beginning);
-                if (m == 0 || first < size && hasBeginning(first, beginning, m) && isPlace(first, m)) {
+                if (isPlaceAlong(row, m)) {
                     places++;
                 }
             }
             return places;
+        }
+
+        private boolean isPlaceAlong(long row, int length) {
+            if (length == 0) {
+                return true;
+            }
+            long beginning = Row.beginning(row, length);
+            int first = rowsBefore(beginning);
+            return first < size && hasBeginning(first, beginning, length) && isPlace(first, length);
         }
 
         private boolean hasBeginning(int index, long beginning, int length) {
