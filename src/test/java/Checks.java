@@ -1,10 +1,17 @@
 import java.nio.charset.StandardCharsets;
+import java.util.NoSuchElementException;
 
 /** What the tests share: names written as texts, answers compared, and the end with its exit code. */
 final class Checks {
+    private static String sentence = "";
     private static int wrong = 0;
 
     private Checks() {
+    }
+
+    /** The document's words that the next answers belong to; they are told with a wrong one. */
+    static void of(String words) {
+        sentence = words;
     }
 
     static long word(String name) {
@@ -37,6 +44,12 @@ final class Checks {
         }
     }
 
+    static void due(String call, String got, String want) {
+        if (!got.equals(want)) {
+            tell(call, got, want);
+        }
+    }
+
     static void dueThrow(String call, Class<? extends RuntimeException> want, Runnable run) {
         String got = "no exception";
         try {
@@ -50,9 +63,21 @@ final class Checks {
         tell(call, got, want.getName());
     }
 
+    static void dueWrong(String call, Runnable run) {
+        dueThrow(call, IllegalArgumentException.class, run);
+    }
+
+    static void dueMissing(String call, Runnable run) {
+        dueThrow(call, NoSuchElementException.class, run);
+    }
+
+    static void dueOff(String call, Runnable run) {
+        dueThrow(call + " when power is off", IllegalStateException.class, run);
+    }
+
     static void tell(String call, String got, String want) {
         wrong++;
-        System.out.println(call + " answered " + got + ", due is " + want);
+        System.out.println("\"" + sentence + "\": " + call + " answered " + got + ", due is " + want);
     }
 
     static void end() {
@@ -60,21 +85,5 @@ final class Checks {
         if (wrong != 0) {
             System.exit(1);
         }
-    }
-
-    /** 24 entries: the seven beginnings of "abcdefg", pairs with a common first byte, single bytes. */
-    static ListedNames crowded(int pairs) {
-        ListedNames names = new ListedNames();
-        for (int i = 1; i <= 7; i++) {
-            due("add in a crowd", enter(names, "abcdefg".substring(0, i), i), i);
-        }
-        for (int i = 0; i < 2 * pairs; i++) {
-            String name = "" + (char) ('q' + i / 2) + (char) ('A' + i % 2);
-            due("add in a crowd", enter(names, name, 8 + i), 8 + i);
-        }
-        for (int i = 8 + 2 * pairs; i <= 24; i++) {
-            due("add in a crowd", enter(names, String.valueOf((char) (200 + i)), i), i);
-        }
-        return names;
     }
 }

@@ -96,10 +96,12 @@ public final class ModelTest {
             return new Object[] {"next", below(10) == 0 ? odd() : below(40)};
         }
         if (kind < 88) {
-            return new Object[] {"listed", below(10) == 0 ? odd() : below(10), below(20) == 0 ? odd() : below(longest + 1)};
+            int k = below(10) == 0 ? odd() : below(10);
+            return new Object[] {"listed", k, below(20) == 0 ? odd() : below(longest + 1)};
         }
         if (kind < 88 + failing) {
-            return below(2) == 0 ? new Object[] {"failAfter", below(10) == 0 ? odd() : below(25)} : new Object[] {"start"};
+            int n = below(10) == 0 ? odd() : below(25);
+            return below(2) == 0 ? new Object[] {"failAfter", n} : new Object[] {"start"};
         }
         return new Object[] {QUESTIONS[below(QUESTIONS.length)]};
     }
